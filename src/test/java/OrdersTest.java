@@ -11,7 +11,9 @@ public final class OrdersTest {
         placesOnTheWay();
         giftsOneByOne();
         manySteps();
+        allSetsOfGifts();
         wrongSteps();
+        questionsOneAfterAnother();
         check.finish();
     }
 
@@ -135,6 +137,48 @@ public final class OrdersTest {
         x.setNeeds(6, NONE, 0, 2, 1, NONE);
         check.due("22: thirteen steps without an order", x.isLawful(), false);
         check.illegalState("23: too many steps, though not lawful", x, x::isLawfulByOrders);
+    }
+
+    private static void allSetsOfGifts() {
+        for (int set = 0; set < 256; set++) {
+            if (Integer.bitCount(set) > 5) {
+                continue;
+            }
+            Rulesheet x = new Rulesheet();
+            StringBuilder order = new StringBuilder();
+            for (int level = 0; level < 8; level++) {
+                x.takeLevel(1);
+                order.append(" 1");
+            }
+            for (int gift = 0; gift < 8; gift++) {
+                if ((set >> gift & 1) != 0) {
+                    x.takeGift(gift);
+                    order.append(' ').append(10 + gift);
+                }
+            }
+            lawful("the gifts " + set, x, order.toString());
+        }
+    }
+
+    /** What one search leaves behind must not reach the next one. */
+    private static void questionsOneAfterAnother() {
+        Rulesheet x = new Rulesheet();
+        x.takeGift(4);
+        x.takeLevel(1);
+        x.bar(4, 1, 0);
+        for (int step = 2; step >= 0; step--) {
+            check.due("24: step " + step, x.stepAt(step), new int[] {14, 1, NONE}[step]);
+            check.due("23: behind step " + step, x.isLawfulByOrders(), true);
+            check.due("24: again " + step, x.stepAt(step), new int[] {14, 1, NONE}[step]);
+            check.due("22: behind step " + step, x.isLawful(), true);
+        }
+        check.illegalState("10: an exchange that is tried", x, () -> x.exchange(4, 4));
+        x.setNeeds(5, NONE, 0, 1, 2, NONE);
+        check.illegalState("10: an exchange for what has no order", x, () -> x.exchange(4, 5));
+        check.due("23: behind an exchange", x.isLawfulByOrders(), true);
+        x.bar(4, NONE, 0);
+        x.setNeeds(4, NONE, 0, 1, 2, NONE);
+        unlawful("rules hold at once", x);
     }
 
     private static void wrongSteps() {

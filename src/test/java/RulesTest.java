@@ -30,9 +30,15 @@ public final class RulesTest {
             check.due("1: the modifier of the score 8 of " + ability, x.value(0), -1);
         }
         Rulesheet other = new Rulesheet();
-        x.takeLevel(0);
         x.setScore(0, 16);
-        check.due("1: objects share nothing", other.level(0) + other.points(), 20);
+        for (int calling = 0; calling < 3; calling++) {
+            x.takeLevel(calling);
+        }
+        for (int value = 1; value < 6; value++) {
+            check.due("1: value " + value + " goes by nothing", x.value(value), 0);
+        }
+        check.due("1: gifts need nothing and are not barred", x.open(), 255);
+        check.due("1: objects share nothing", Snapshot.of(other), Snapshot.of(new Rulesheet()));
     }
 
     private static void needsOfScores() {
