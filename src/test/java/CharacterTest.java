@@ -41,14 +41,14 @@ public final class CharacterTest {
         x.setScore(0, 16);
         x.setScore(1, 14);
         check.due("6: all points are spent", x.points(), 0);
-        check.illegalState("6: one point too dear", x, () -> x.setScore(2, 9));
-        check.illegalState("6: two points too dear", x, () -> x.setScore(1, 15));
+        check.illegalState("6: one point too dear", () -> x.setScore(2, 9));
+        check.illegalState("6: two points too dear", () -> x.setScore(1, 15));
         check.due("6: the same score again", x.setScore(1, 14), 0);
         for (int wrong : new int[] {-1, 4, Integer.MIN_VALUE, Integer.MAX_VALUE}) {
-            check.outOfBounds("6: ability " + wrong, x, () -> x.setScore(wrong, 17));
+            check.outOfBounds("6: ability " + wrong, () -> x.setScore(wrong, 17));
         }
         for (int wrong : new int[] {7, 17, -1, Integer.MIN_VALUE, Integer.MAX_VALUE}) {
-            check.illegalArgument("6: score " + wrong, x, () -> x.setScore(3, wrong));
+            check.illegalArgument("6: score " + wrong, () -> x.setScore(3, wrong));
         }
     }
 
@@ -60,10 +60,10 @@ public final class CharacterTest {
         }
         for (int calling = 0; calling < 3; calling++) {
             int last = calling;
-            check.illegalState("7: a ninth level", x, () -> x.takeLevel(last));
+            check.illegalState("7: a ninth level", () -> x.takeLevel(last));
         }
         for (int wrong : new int[] {-1, 3, Integer.MIN_VALUE, Integer.MAX_VALUE}) {
-            check.outOfBounds("7: calling " + wrong, x, () -> x.takeLevel(wrong));
+            check.outOfBounds("7: calling " + wrong, () -> x.takeLevel(wrong));
         }
         x.loseLevel();
         check.due("7: the eighth again", x.takeLevel(2), 8);
@@ -72,11 +72,11 @@ public final class CharacterTest {
     private static void gifts() {
         Rulesheet x = new Rulesheet();
         check.due("8: the first gift", x.takeGift(7), 1);
-        check.illegalState("8: no place", x, () -> x.takeGift(0));
+        check.illegalState("8: no place", () -> x.takeGift(0));
         x.takeLevel(0);
-        check.illegalState("8: no place with a level of 1", x, () -> x.takeGift(0));
+        check.illegalState("8: no place with a level of 1", () -> x.takeGift(0));
         x.takeLevel(1);
-        check.illegalState("8: a gift that it has", x, () -> x.takeGift(7));
+        check.illegalState("8: a gift that it has", () -> x.takeGift(7));
         check.due("8: the second gift", x.takeGift(0), 2);
         check.due("13: both gifts", x.gifts(), 129);
         x.loseLevel();
@@ -90,13 +90,13 @@ public final class CharacterTest {
             }
             check.due("8: gift " + gift, x.takeGift(gift), gift);
         }
-        check.illegalState("8: a sixth gift", x, () -> x.takeGift(6));
+        check.illegalState("8: a sixth gift", () -> x.takeGift(6));
     }
 
     private static void wrongGifts() {
         Rulesheet x = new Rulesheet();
         for (int wrong : new int[] {-1, 8, 32, Integer.MIN_VALUE, Integer.MAX_VALUE}) {
-            check.outOfBounds("8: gift " + wrong, x, () -> x.takeGift(wrong));
+            check.outOfBounds("8: gift " + wrong, () -> x.takeGift(wrong));
         }
         x.setNeeds(0, 0, 9, NONE, 0, NONE);
         x.setNeeds(1, NONE, 0, 0, 1, NONE);
@@ -105,7 +105,7 @@ public final class CharacterTest {
         x.bar(3, 1, 0);
         for (int gift = 0; gift < 4; gift++) {
             int closed = gift;
-            check.illegalState("8: closed gift " + gift, x, () -> x.takeGift(closed));
+            check.illegalState("8: closed gift " + gift, () -> x.takeGift(closed));
         }
         x.bar(3, 1, 1);
         x.takeGift(3);
@@ -117,7 +117,7 @@ public final class CharacterTest {
 
     private static void lostLevels() {
         Rulesheet x = new Rulesheet();
-        check.illegalState("9: no level", x, x::loseLevel);
+        check.illegalState("9: no level", x::loseLevel);
         int[] callings = {2, 0, 1, 1, 0, 2, 2, 0};
         for (int calling : callings) {
             x.takeLevel(calling);
@@ -133,7 +133,7 @@ public final class CharacterTest {
             check.due("9: gifts stay", x.gifts(), 96);
             check.due("9: but work no more", x.working(), 32);
         }
-        check.illegalState("9: no level again", x, x::loseLevel);
+        check.illegalState("9: no level again", x::loseLevel);
         check.due("9: a level after that", x.takeLevel(1), 1);
     }
 
@@ -151,7 +151,7 @@ public final class CharacterTest {
         check.due("10: its order", Snapshot.order(x), " 0 12 1 11");
         x.setNeeds(1, NONE, 0, NONE, 0, 2);
         check.due("10: the gifts with one that needs another", x.working(), 6);
-        check.illegalState("10: the one that is needed", x, () -> x.exchange(2, 3));
+        check.illegalState("10: the one that is needed", () -> x.exchange(2, 3));
         check.due("10: the one that needs", x.exchange(1, 3), 0);
     }
 
@@ -162,18 +162,18 @@ public final class CharacterTest {
         x.takeGift(0);
         x.takeGift(1);
         for (int wrong : new int[] {-1, 8, 32, Integer.MIN_VALUE, Integer.MAX_VALUE}) {
-            check.outOfBounds("10: gift " + wrong, x, () -> x.exchange(wrong, 0));
-            check.outOfBounds("10: other " + wrong, x, () -> x.exchange(2, wrong));
+            check.outOfBounds("10: gift " + wrong, () -> x.exchange(wrong, 0));
+            check.outOfBounds("10: other " + wrong, () -> x.exchange(2, wrong));
         }
-        check.illegalState("10: a gift that it does not have", x, () -> x.exchange(2, 3));
-        check.illegalState("10: another that it has", x, () -> x.exchange(0, 1));
-        check.illegalState("10: for itself", x, () -> x.exchange(0, 0));
+        check.illegalState("10: a gift that it does not have", () -> x.exchange(2, 3));
+        check.illegalState("10: another that it has", () -> x.exchange(0, 1));
+        check.illegalState("10: for itself", () -> x.exchange(0, 0));
         x.setNeeds(4, 3, 9, NONE, 0, NONE);
         x.setNeeds(5, NONE, 0, 2, 1, NONE);
         x.setNeeds(6, NONE, 0, NONE, 0, 0);
-        check.illegalState("10: a score too low", x, () -> x.exchange(0, 4));
-        check.illegalState("10: a level too low", x, () -> x.exchange(0, 5));
-        check.illegalState("10: one that needs the one given", x, () -> x.exchange(0, 6));
+        check.illegalState("10: a score too low", () -> x.exchange(0, 4));
+        check.illegalState("10: a level too low", () -> x.exchange(0, 5));
+        check.illegalState("10: one that needs the one given", () -> x.exchange(0, 6));
         check.due("10: one that needs the one kept", x.exchange(1, 6), 0);
     }
 
@@ -185,11 +185,11 @@ public final class CharacterTest {
         x.takeGift(1);
         x.setNeeds(0, 0, 9, NONE, 0, NONE);
         check.due("10: unlawful before", x.isLawful(), false);
-        check.illegalState("10: unlawful then, too", x, () -> x.exchange(1, 2));
+        check.illegalState("10: unlawful then, too", () -> x.exchange(1, 2));
         check.due("10: lawful by the exchange", x.exchange(0, 2), 0);
         check.due("10: lawful then", x.isLawful(), true);
         x.loseLevel();
-        check.illegalState("10: more gifts than places", x, () -> x.exchange(1, 3));
+        check.illegalState("10: more gifts than places", () -> x.exchange(1, 3));
     }
 
     private static void cleared() {
@@ -208,7 +208,7 @@ public final class CharacterTest {
         check.due("11: one place", x.places(), 1);
         check.due("11: scores stay", x.points(), 16);
         check.due("11: rules stay", x.open(), 239);
-        check.illegalState("11: no level to lose", x, x::loseLevel);
+        check.illegalState("11: no level to lose", x::loseLevel);
         x.takeGift(6);
         check.due("11: bonuses stay", x.bonus(2, 0), 5);
         check.due("11: again", x.clear(), 1);

@@ -1,3 +1,6 @@
+import java.util.ArrayList;
+import java.util.List;
+
 /** Counts what was as due, and tells what was not. */
 final class Check {
 
@@ -7,6 +10,7 @@ final class Check {
     }
 
     private final String test;
+    private String sentence = "";
     private int passed = 0;
     private int failed = 0;
 
@@ -23,9 +27,45 @@ final class Check {
         }
     }
 
-    /** The very class is due, and nothing that can be asked of the object may differ afterwards. */
-    void throwing(String what, Class<? extends RuntimeException> want, Rulesheet object, Call call) {
-        String before = Snapshot.of(object);
+    /** The document's sentence that the scripts behind it hold the class to. */
+    void sentence(String text) {
+        sentence = text;
+    }
+
+    /**
+     * Makes a script's calls on a new object: "takeLevel 2 = 1; loseLevel = 2; loseLevel = state". What is due stands
+     * behind the sign =; a call without it must not throw. What a call that throws leaves behind is looked at, too.
+     */
+    void holds(String script) {
+        Run run = new Run();
+        List<String> ahead = new ArrayList<>();
+        for (String part : Run.parted(script)) {
+            String[] sides = part.split(" = ");
+            String answer = run.answer(sides[0]);
+            boolean throwing = !answer.matches("-|true|false|-?\\d+");
+            String what = sentence + ": " + ahead + ", " + sides[0];
+            if (sides.length > 1) {
+                due(what, answer, sides[1]);
+            } else {
+                due(what, throwing ? answer : "no exception", "no exception");
+            }
+            if (throwing) {
+                due(what + " leaves behind", Traces.leavesBehind(ahead, sides[0]), "nothing");
+            } else {
+                ahead.add(sides[0]);
+            }
+        }
+    }
+
+    /** The call is made on a new object in each of the states; each time the same is due. */
+    void holdsInAllStates(String call) {
+        for (String state : States.ALL) {
+            holds(state + call);
+        }
+    }
+
+    /** The very class is due; what such a call leaves behind is looked at by scripts. */
+    private void throwing(String what, Class<? extends RuntimeException> want, Call call) {
         Object got = "nothing thrown";
         try {
             call.run();
@@ -33,19 +73,18 @@ final class Check {
             got = e.getClass();
         }
         due(what, got, want);
-        due(what + ", state afterwards", Snapshot.of(object), before);
     }
 
-    void outOfBounds(String what, Rulesheet object, Call call) {
-        throwing(what, IndexOutOfBoundsException.class, object, call);
+    void outOfBounds(String what, Call call) {
+        throwing(what, IndexOutOfBoundsException.class, call);
     }
 
-    void illegalArgument(String what, Rulesheet object, Call call) {
-        throwing(what, IllegalArgumentException.class, object, call);
+    void illegalArgument(String what, Call call) {
+        throwing(what, IllegalArgumentException.class, call);
     }
 
-    void illegalState(String what, Rulesheet object, Call call) {
-        throwing(what, IllegalStateException.class, object, call);
+    void illegalState(String what, Call call) {
+        throwing(what, IllegalStateException.class, call);
     }
 
     void finish() {

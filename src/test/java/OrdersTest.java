@@ -28,8 +28,8 @@ public final class OrdersTest {
     private static void unlawful(String what, Rulesheet x) {
         check.due("22: " + what, x.isLawful(), false);
         check.due("23: " + what, x.isLawfulByOrders(), false);
-        check.illegalState("24: " + what, x, () -> x.stepAt(0));
-        check.illegalState("24: behind the end, " + what, x, () -> x.stepAt(Integer.MAX_VALUE));
+        check.illegalState("24: " + what, () -> x.stepAt(0));
+        check.illegalState("24: behind the end, " + what, () -> x.stepAt(Integer.MAX_VALUE));
     }
 
     private static void empty() {
@@ -121,12 +121,12 @@ public final class OrdersTest {
         }
         lawful("eight levels", x, " 0 0 0 1 1 1 2 2");
         x.takeGift(7);
-        check.illegalState("23: nine steps", x, x::isLawfulByOrders);
+        check.illegalState("23: nine steps", x::isLawfulByOrders);
         for (int gift = 6; gift >= 3; gift--) {
             x.takeGift(gift);
         }
         lawful("thirteen steps", x, " 0 0 0 1 1 1 2 2 13 14 15 16 17");
-        check.illegalState("23: thirteen steps", x, x::isLawfulByOrders);
+        check.illegalState("23: thirteen steps", x::isLawfulByOrders);
         x.bar(7, 0, 0);
         x.bar(6, 1, 0);
         x.bar(5, 2, 1);
@@ -136,7 +136,7 @@ public final class OrdersTest {
         lawful("thirteen steps with lower bars", x, " 16 1 1 1 15 2 2 17 0 0 0 13 14");
         x.setNeeds(6, NONE, 0, 2, 1, NONE);
         check.due("22: thirteen steps without an order", x.isLawful(), false);
-        check.illegalState("23: too many steps, though not lawful", x, x::isLawfulByOrders);
+        check.illegalState("23: too many steps, though not lawful", x::isLawfulByOrders);
     }
 
     private static void allSetsOfGifts() {
@@ -172,9 +172,9 @@ public final class OrdersTest {
             check.due("24: again " + step, x.stepAt(step), new int[] {14, 1, NONE}[step]);
             check.due("22: behind step " + step, x.isLawful(), true);
         }
-        check.illegalState("10: an exchange that is tried", x, () -> x.exchange(4, 4));
+        check.illegalState("10: an exchange that is tried", () -> x.exchange(4, 4));
         x.setNeeds(5, NONE, 0, 1, 2, NONE);
-        check.illegalState("10: an exchange for what has no order", x, () -> x.exchange(4, 5));
+        check.illegalState("10: an exchange for what has no order", () -> x.exchange(4, 5));
         check.due("23: behind an exchange", x.isLawfulByOrders(), true);
         x.bar(4, NONE, 0);
         x.setNeeds(4, NONE, 0, 1, 2, NONE);
@@ -184,11 +184,11 @@ public final class OrdersTest {
     private static void wrongSteps() {
         Rulesheet x = new Rulesheet();
         for (int wrong : new int[] {-1, Integer.MIN_VALUE}) {
-            check.outOfBounds("24: step " + wrong, x, () -> x.stepAt(wrong));
+            check.outOfBounds("24: step " + wrong, () -> x.stepAt(wrong));
         }
         x.takeGift(0);
         x.setNeeds(0, NONE, 0, NONE, 0, 0);
-        check.outOfBounds("24: a step below 0 of an unlawful one", x, () -> x.stepAt(-1));
+        check.outOfBounds("24: a step below 0 of an unlawful one", () -> x.stepAt(-1));
         unlawful("a gift that needs itself", x);
     }
 }

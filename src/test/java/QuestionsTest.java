@@ -176,7 +176,7 @@ public final class QuestionsTest {
         Rulesheet x = new Rulesheet();
         x.setValue(2, 0, NONE, NONE, 2);
         check.due("20: by itself", x.isRing(2), true);
-        check.illegalState("18: by itself", x, () -> x.value(2));
+        check.illegalState("18: by itself", () -> x.value(2));
         for (int value = 0; value < 6; value++) {
             x.setValue(value, 0, NONE, NONE, (value + 1) % 6);
         }
@@ -189,7 +189,7 @@ public final class QuestionsTest {
         for (int value = 0; value < 5; value++) {
             int ring = value;
             check.due("20: into a ring, " + value, x.isRing(value), true);
-            check.illegalState("18: into a ring, " + value, x, () -> x.value(ring));
+            check.illegalState("18: into a ring, " + value, () -> x.value(ring));
         }
         check.due("20: beside a ring", x.isRing(5), false);
         check.due("18: beside a ring", x.value(5), 0);
@@ -202,15 +202,15 @@ public final class QuestionsTest {
     private static void wrongQuestions() {
         Rulesheet x = new Rulesheet();
         for (int wrong : new int[] {-1, 6, Integer.MIN_VALUE, Integer.MAX_VALUE}) {
-            check.outOfBounds("18: value " + wrong, x, () -> x.value(wrong));
-            check.outOfBounds("19: value " + wrong, x, () -> x.bonus(wrong, -1));
-            check.outOfBounds("20: value " + wrong, x, () -> x.isRing(wrong));
+            check.outOfBounds("18: value " + wrong, () -> x.value(wrong));
+            check.outOfBounds("19: value " + wrong, () -> x.bonus(wrong, -1));
+            check.outOfBounds("20: value " + wrong, () -> x.isRing(wrong));
         }
         for (int wrong : new int[] {-1, 4, Integer.MIN_VALUE, Integer.MAX_VALUE}) {
-            check.illegalArgument("19: kind " + wrong, x, () -> x.bonus(5, wrong));
+            check.illegalArgument("19: kind " + wrong, () -> x.bonus(5, wrong));
         }
         for (int wrong : new int[] {-1, 3, Integer.MIN_VALUE, Integer.MAX_VALUE}) {
-            check.outOfBounds("12: calling " + wrong, x, () -> x.level(wrong));
+            check.outOfBounds("12: calling " + wrong, () -> x.level(wrong));
         }
     }
 

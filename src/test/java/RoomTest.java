@@ -4,7 +4,11 @@ import java.lang.management.ManagementFactory;
 public final class RoomTest {
 
     private static final Check check = new Check("RoomTest");
-    private static final int CALLS = 512;
+    private static final int OBJECTS = 20;
+
+    /** Of 17 calls, so that an object sees fewer than 512. */
+    private static final int ROUNDS = 26;
+
     private static final long MOST_BYTES = 64 * 1024;
 
     private static int sum = 0;
@@ -13,11 +17,14 @@ public final class RoomTest {
         com.sun.management.ThreadMXBean threads =
                 (com.sun.management.ThreadMXBean) ManagementFactory.getThreadMXBean();
         long self = Thread.currentThread().getId();
-        Rulesheet x = hardest();
-        askAll(x);
+        Rulesheet[] hardest = new Rulesheet[OBJECTS];
+        for (int at = 0; at < OBJECTS; at++) {
+            hardest[at] = hardest();
+            askAll(hardest[at]);
+        }
         long before = threads.getThreadAllocatedBytes(self);
-        for (int call = 0; call < CALLS; call++) {
-            askAll(x);
+        for (int call = 0; call < OBJECTS * ROUNDS; call++) {
+            askAll(hardest[call % OBJECTS]);
         }
         long made = threads.getThreadAllocatedBytes(self) - before;
         check.due("bytes made by many calls are few", made < MOST_BYTES ? "few" : made + " bytes", "few");

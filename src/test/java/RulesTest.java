@@ -100,20 +100,20 @@ public final class RulesTest {
         Rulesheet x = new Rulesheet();
         for (int wrong : new int[] {-2, 3, 4, 8, Integer.MIN_VALUE, Integer.MAX_VALUE}) {
             if (wrong != 3 && wrong != 4) {
-                check.outOfBounds("2: gift " + wrong, x, () -> x.setNeeds(wrong, 0, 0, 0, 0, NONE));
-                check.outOfBounds("2: other " + wrong, x, () -> x.setNeeds(0, 0, 0, 0, 0, wrong));
+                check.outOfBounds("2: gift " + wrong, () -> x.setNeeds(wrong, 0, 0, 0, 0, NONE));
+                check.outOfBounds("2: other " + wrong, () -> x.setNeeds(0, 0, 0, 0, 0, wrong));
             }
             if (wrong != 3) {
-                check.outOfBounds("2: ability " + wrong, x, () -> x.setNeeds(0, wrong, 0, 0, 0, 0));
+                check.outOfBounds("2: ability " + wrong, () -> x.setNeeds(0, wrong, 0, 0, 0, 0));
             }
-            check.outOfBounds("2: calling " + wrong, x, () -> x.setNeeds(0, 0, 0, wrong, 0, 0));
+            check.outOfBounds("2: calling " + wrong, () -> x.setNeeds(0, 0, 0, wrong, 0, 0));
         }
-        check.outOfBounds("2: gift NONE", x, () -> x.setNeeds(NONE, NONE, 0, NONE, 0, NONE));
+        check.outOfBounds("2: gift NONE", () -> x.setNeeds(NONE, NONE, 0, NONE, 0, NONE));
         for (int wrong : new int[] {7, 17, -1, Integer.MIN_VALUE, Integer.MAX_VALUE}) {
-            check.illegalArgument("2: score " + wrong, x, () -> x.setNeeds(0, 3, wrong, 0, 1, 0));
+            check.illegalArgument("2: score " + wrong, () -> x.setNeeds(0, 3, wrong, 0, 1, 0));
         }
         for (int wrong : new int[] {0, 9, -1, Integer.MIN_VALUE, Integer.MAX_VALUE}) {
-            check.illegalArgument("2: level " + wrong, x, () -> x.setNeeds(0, 0, 8, 2, wrong, 0));
+            check.illegalArgument("2: level " + wrong, () -> x.setNeeds(0, 0, 8, 2, wrong, 0));
         }
     }
 
@@ -148,19 +148,19 @@ public final class RulesTest {
         x.takeLevel(1);
         x.takeLevel(2);
         for (int wrong : new int[] {-1, 8, Integer.MIN_VALUE, Integer.MAX_VALUE}) {
-            check.outOfBounds("3: gift " + wrong, x, () -> x.bar(wrong, 0, -1));
-            check.illegalArgument("3: level " + wrong, x, () -> x.bar(0, 0, wrong));
+            check.outOfBounds("3: gift " + wrong, () -> x.bar(wrong, 0, -1));
+            check.illegalArgument("3: level " + wrong, () -> x.bar(0, 0, wrong));
         }
         for (int wrong : new int[] {-2, 3, Integer.MIN_VALUE, Integer.MAX_VALUE}) {
-            check.outOfBounds("3: calling " + wrong, x, () -> x.bar(0, wrong, 8));
+            check.outOfBounds("3: calling " + wrong, () -> x.bar(0, wrong, 8));
         }
     }
 
     private static void bonuses() {
-        Rulesheet x = new Rulesheet();
-        x.takeGift(5);
         for (int value = 0; value < 6; value++) {
             for (int kind = 0; kind < 4; kind++) {
+                Rulesheet x = new Rulesheet();
+                x.takeGift(5);
                 for (int amount = -9; amount <= 9; amount++) {
                     x.setBonus(5, value, kind, amount);
                     check.due("4: bonus " + value + " " + kind + " " + amount, x.bonus(value, kind), amount);
@@ -169,6 +169,9 @@ public final class RulesTest {
                 }
             }
         }
+        Rulesheet x = new Rulesheet();
+        x.takeGift(5);
+        x.setBonus(5, 5, 3, 9);
         x.setBonus(5, NONE, 3, 9);
         check.due("4: no bonus", x.bonus(5, 3), 0);
     }
@@ -177,18 +180,18 @@ public final class RulesTest {
         Rulesheet x = new Rulesheet();
         x.takeGift(0);
         for (int wrong : new int[] {-1, 8, Integer.MIN_VALUE, Integer.MAX_VALUE}) {
-            check.outOfBounds("4: gift " + wrong, x, () -> x.setBonus(wrong, 0, -1, 10));
+            check.outOfBounds("4: gift " + wrong, () -> x.setBonus(wrong, 0, -1, 10));
         }
         for (int wrong : new int[] {-2, 6, Integer.MIN_VALUE, Integer.MAX_VALUE}) {
-            check.outOfBounds("4: value " + wrong, x, () -> x.setBonus(0, wrong, 4, -10));
+            check.outOfBounds("4: value " + wrong, () -> x.setBonus(0, wrong, 4, -10));
         }
         for (int wrong : new int[] {-1, 4, Integer.MIN_VALUE, Integer.MAX_VALUE}) {
-            check.illegalArgument("4: kind " + wrong, x, () -> x.setBonus(0, 0, wrong, 1));
-            check.illegalArgument("4: kind without value " + wrong, x, () -> x.setBonus(0, NONE, wrong, 1));
+            check.illegalArgument("4: kind " + wrong, () -> x.setBonus(0, 0, wrong, 1));
+            check.illegalArgument("4: kind without value " + wrong, () -> x.setBonus(0, NONE, wrong, 1));
         }
         for (int wrong : new int[] {-10, 10, Integer.MIN_VALUE, Integer.MAX_VALUE}) {
-            check.illegalArgument("4: amount " + wrong, x, () -> x.setBonus(0, 0, 0, wrong));
-            check.illegalArgument("4: amount without value " + wrong, x, () -> x.setBonus(0, NONE, 0, wrong));
+            check.illegalArgument("4: amount " + wrong, () -> x.setBonus(0, 0, 0, wrong));
+            check.illegalArgument("4: amount without value " + wrong, () -> x.setBonus(0, NONE, 0, wrong));
         }
     }
 
@@ -215,18 +218,18 @@ public final class RulesTest {
     private static void wrongValues() {
         Rulesheet x = new Rulesheet();
         for (int wrong : new int[] {-2, 6, Integer.MIN_VALUE, Integer.MAX_VALUE}) {
-            check.outOfBounds("5: value " + wrong, x, () -> x.setValue(wrong, 51, NONE, NONE, NONE));
-            check.outOfBounds("5: other " + wrong, x, () -> x.setValue(0, 51, 0, 0, wrong));
+            check.outOfBounds("5: value " + wrong, () -> x.setValue(wrong, 51, NONE, NONE, NONE));
+            check.outOfBounds("5: other " + wrong, () -> x.setValue(0, 51, 0, 0, wrong));
         }
-        check.outOfBounds("5: value NONE", x, () -> x.setValue(NONE, 0, NONE, NONE, NONE));
+        check.outOfBounds("5: value NONE", () -> x.setValue(NONE, 0, NONE, NONE, NONE));
         for (int wrong : new int[] {-2, 4, Integer.MIN_VALUE, Integer.MAX_VALUE}) {
-            check.outOfBounds("5: ability " + wrong, x, () -> x.setValue(0, -51, wrong, 0, NONE));
+            check.outOfBounds("5: ability " + wrong, () -> x.setValue(0, -51, wrong, 0, NONE));
         }
         for (int wrong : new int[] {-2, 3, Integer.MIN_VALUE, Integer.MAX_VALUE}) {
-            check.outOfBounds("5: calling " + wrong, x, () -> x.setValue(0, -51, 0, wrong, NONE));
+            check.outOfBounds("5: calling " + wrong, () -> x.setValue(0, -51, 0, wrong, NONE));
         }
         for (int wrong : new int[] {-51, 51, Integer.MIN_VALUE, Integer.MAX_VALUE}) {
-            check.illegalArgument("5: base " + wrong, x, () -> x.setValue(0, wrong, 0, 0, 0));
+            check.illegalArgument("5: base " + wrong, () -> x.setValue(0, wrong, 0, 0, 0));
         }
     }
 }
