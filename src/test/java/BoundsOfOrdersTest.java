@@ -82,6 +82,10 @@ public final class BoundsOfOrdersTest {
     private static void byOrders() {
         check.sentence("23: Tells the same, by trying every order.");
         check.holds("isLawfulByOrders = true");
+        check.holds("takeLevel 0; takeGift 0; stepAt 1 = 10; isLawfulByOrders = true; stepAt 0 = 0; isLawfulByOrders = true;"
+                + "isLawful = true; isLawfulByOrders = true; exchange 0 1 = 0; isLawfulByOrders = true; bar 1 0 0;"
+                + "stepAt 0 = 11; isLawfulByOrders = true; setNeeds 1 NONE 0 0 1 NONE; isLawfulByOrders = false;"
+                + "isLawful = false; isLawfulByOrders = false");
         check.holds("8x takeLevel 0; isLawfulByOrders = true; takeGift 0; isLawfulByOrders = state; loseLevel;"
                 + "isLawfulByOrders = true; bar 0 0 0; isLawfulByOrders = true; setNeeds 0 NONE 0 0 1 NONE;"
                 + "isLawfulByOrders = false; takeLevel 0; isLawfulByOrders = state; isLawful = false");

@@ -239,6 +239,22 @@ public final class BoundsOfQuestionsTest {
             for (String question : Traces.QUESTIONS) {
                 check.due(question + " is a question", Traces.leavesBehind(Run.parted(state), question), "nothing");
             }
+            questionsInPairs(state);
+        }
+    }
+
+    /** Each question is answered behind each other one as it is at first. */
+    private static void questionsInPairs(String state) {
+        for (String second : Traces.QUESTIONS) {
+            Run alone = new Run();
+            alone.answers(Run.parted(state));
+            String due = alone.answer(second);
+            for (String first : Traces.QUESTIONS) {
+                Run run = new Run();
+                run.answers(Run.parted(state));
+                run.answer(first);
+                check.due(second + " behind " + first, run.answer(second), due);
+            }
         }
     }
 }

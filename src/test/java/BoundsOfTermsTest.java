@@ -9,6 +9,7 @@ public final class BoundsOfTermsTest {
         calls();
         rulesHoldAtOnce();
         refusedCalls();
+        refusedRules();
         exceptionsInTheirOrder();
         numbers();
         abilities();
@@ -99,6 +100,35 @@ public final class BoundsOfTermsTest {
                 + "takeLevel 1 = state; takeGift 1 = state; isLawfulByOrders = state");
         check.holds(States.RULES + "loseLevel = state; takeGift 0 = state; takeGift 1 = state; takeGift 2 = state;"
                 + "takeGift 3 = state; takeGift 4 = state; exchange 5 6 = state");
+    }
+
+    /** One argument is wrong, the others are fine and differ from what holds: none of them may be taken over. */
+    private static void refusedRules() {
+        check.sentence("A call that throws an exception changes nothing");
+        for (int gift = 0; gift < 8; gift++) {
+            String[] needs = {" 4 8 2 8 6 = index", " 1 16 3 8 NONE = index", " 1 8 2 1 8 = index", " 3 17 1 8 NONE = argument",
+                " 1 7 NONE 0 NONE = argument", " 1 8 2 9 NONE = argument", " 1 16 2 0 6 = argument", " 0 8 0 9 5 = argument",
+                " 0 16 0 9 5 = argument", " NONE 8 1 9 NONE = argument"};
+            for (String need : needs) {
+                check.holdsInAllStates("setNeeds " + gift + need);
+            }
+            String[] bars = {" 3 1 = index", " -2 1 = index", " 0 8 = argument", " 1 -1 = argument", " 2 8 = argument"};
+            for (String bar : bars) {
+                check.holdsInAllStates("bar " + gift + bar);
+            }
+            String[] bonuses = {" 6 2 -9 = index", " -2 2 9 = index", " 3 2 10 = argument", " 0 2 -10 = argument",
+                " 3 4 9 = argument", " NONE 4 9 = argument", " NONE 0 10 = argument"};
+            for (String bonus : bonuses) {
+                check.holdsInAllStates("setBonus " + gift + bonus);
+            }
+        }
+        for (int value = 0; value < 6; value++) {
+            String[] values = {" 50 4 2 NONE = index", " 50 2 3 NONE = index", " 50 2 2 6 = index", " -50 NONE NONE -2 = index",
+                " 51 2 2 NONE = argument", " -51 NONE NONE 5 = argument", " 51 NONE NONE NONE = argument"};
+            for (String made : values) {
+                check.holdsInAllStates("setValue " + value + made);
+            }
+        }
     }
 
     private static void exceptionsInTheirOrder() {

@@ -81,7 +81,7 @@ final class Traces {
         for (int step = 0; step <= 13; step++) {
             calls.add("stepAt " + step);
         }
-        calls.addAll(Run.parted("isLawfulByOrders; isLawful"));
+        calls.addAll(Run.parted("stepAt 0; isLawfulByOrders; stepAt 6; isLawful; stepAt 6; isLawfulByOrders"));
         return calls;
     }
 
