@@ -47,7 +47,7 @@ public final class BoundsOfRulesTest {
     }
 
     private static void statesAreWhatTheyAreMeantToBe() {
-        check.sentence("the states of the tests");
+        check.about("the states of the tests");
         check.holds(States.FULL + "points = 0; places = 5; gifts = 248; working = 248; open = 0; isLawful = true;"
                 + "isLawfulByOrders = state; stepAt 12 = 17; stepAt 13 = -1");
         check.holds(States.RULES + "open = 224; isRing 3 = true; isRing 4 = true; isRing 0 = false; isLawful = true");

@@ -1,4 +1,4 @@
-/** The sentences of 'What it is' and 'Terms' that name a boundary: each one's last case inside and first outside. */
+/** The sentences of 'What it is' and 'Terms': the last case inside and the first outside of each that names a boundary. */
 public final class BoundsOfTermsTest {
 
     private static final Check check = new Check("BoundsOfTermsTest");
@@ -6,6 +6,7 @@ public final class BoundsOfTermsTest {
     private static final String FULL = States.FULL;
 
     public static void main(String[] args) {
+        whatItIs();
         calls();
         rulesHoldAtOnce();
         refusedCalls();
@@ -28,6 +29,23 @@ public final class BoundsOfTermsTest {
         ringsOfValues();
         attacks();
         check.finish();
+    }
+
+    private static void whatItIs() {
+        check.sentence("A maker of characters by rules: abilities are bought with points, levels are taken in callings, gifts"
+                + " need abilities, levels and other gifts, bonuses of one kind do not add up, values depend on one another,"
+                + " and it is told whether a character could have come about in some lawful order, and what falls when"
+                + " something is lost or exchanged.");
+        String rules = "setNeeds 0 1 13 NONE 0 NONE; setNeeds 1 NONE 0 2 2 NONE; setNeeds 2 NONE 0 NONE 0 1;"
+                + "setBonus 1 0 3 4; setBonus 2 0 3 6; setValue 0 3 NONE NONE NONE; setValue 1 2 NONE NONE 0;";
+        check.holds(rules + "open = 248; points = 20; setScore 1 13 = 14; points = 14; open = 249");
+        check.holds(rules + "takeLevel 2 = 1; level 2 = 1; open = 248; takeLevel 2 = 2; level 2 = 2; level 0 = 0; open = 250");
+        check.holds(rules + "2x takeLevel 2; takeGift 2 = state; takeGift 1 = 1; open = 252; value 0 = 7; value 1 = 5;"
+                + "takeGift 2 = 2; bonus 0 3 = 6; value 0 = 9; value 1 = 6");
+        check.holds(rules + "2x takeLevel 2; takeGift 1; takeGift 2; isLawful = true; isLawfulByOrders = true; stepAt 0 = 2;"
+                + "stepAt 1 = 2; stepAt 2 = 11; stepAt 3 = 12; stepAt 4 = -1; exchange 1 7 = state; exchange 2 7 = 0;"
+                + "exchange 7 2 = 0; loseLevel = 2; gifts = 6; working = 0; bonus 0 3 = 0; value 0 = 3; isLawful = false;"
+                + "isLawfulByOrders = false; stepAt 0 = state");
     }
 
     private static void calls() {
@@ -60,6 +78,9 @@ public final class BoundsOfTermsTest {
     }
 
     private static void rulesHoldAtOnce() {
+        check.sentence("First the rules are laid, then characters are made");
+        check.holds(States.RULES + "takeGift 5 = 1; gifts = 32; clear = 1; takeGift 6 = 1; gifts = 64; clear = 1;"
+                + "takeLevel 0 = 1; takeGift 5 = state; takeGift 6 = 1; clear = 2; takeGift 5 = 1");
         check.sentence("rules may be changed later, too, and hold at once");
         check.holds("takeGift 0; working = 1; isLawful = true; setNeeds 0 0 9 NONE 0 NONE = -; working = 0;"
                 + "isLawful = false; isLawfulByOrders = false; stepAt 0 = state; setNeeds 0 NONE 0 NONE 0 NONE = -;"
@@ -537,9 +558,9 @@ public final class BoundsOfTermsTest {
     }
 
     private static void attacks() {
-        check.sentence("for each calling k, by rising numbers, the level in it times (k + 2) / 4f is added, and, if the"
-                + " character has levels in a lower calling, too, 0.125f times the level in this calling k is taken off;"
-                + " the sum is cast to an int.");
+        check.sentence("The attack of a character is found in float arithmetic: for each calling k, by rising numbers, the"
+                + " level in it times (k + 2) / 4f is added, and, if the character has levels in a lower calling, too, 0.125f"
+                + " times the level in this calling k is taken off; the sum is cast to an int.");
         int[][] due = {{0, 0, 0, 0}, {1, 0, 0, 0}, {2, 0, 0, 1}, {3, 0, 0, 1}, {8, 0, 0, 4}, {0, 1, 0, 0}, {0, 2, 0, 1},
             {0, 3, 0, 2}, {0, 4, 0, 3}, {0, 8, 0, 6}, {0, 0, 1, 1}, {0, 0, 8, 8}, {1, 1, 0, 1}, {1, 0, 1, 1},
             {0, 1, 1, 1}, {1, 1, 1, 2}, {1, 7, 0, 4}, {7, 1, 0, 4}, {7, 0, 1, 4}, {1, 0, 7, 6}, {0, 1, 7, 6},

@@ -27,8 +27,13 @@ final class Check {
         }
     }
 
-    /** The document's sentence that the scripts behind it hold the class to. */
+    /** The document's sentence that the scripts behind it hold the class to; DocumentTest looks it up. */
     void sentence(String text) {
+        sentence = text;
+    }
+
+    /** What the scripts behind it look at, if it is no sentence of the document. */
+    void about(String text) {
         sentence = text;
     }
 
